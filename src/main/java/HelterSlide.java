@@ -10,11 +10,13 @@ public final class HelterSlide {
     private static final int PLAIN = 0, STOUT = 1, CLERK = 2, STANDER = 3, KING = 4;
     private static final int MOST_ROUGH = 9, MOST_BUMP = 9, MOST_HEAVY = 20, MOST_LEAN = 7;
     private static final int FIRST_SPEED = 2, MOST_SPEED = 30;
+    private static final int PLAIN_GAIN = 2, CLERK_LOSS = 2, CLERK_SPEED = 6;
     private static final int OUTCOMES = 8;
     private static final int STUCK = 10;
     private static final int TOP = 30;
     private static final int MOST_RIDES = 9999;
     private static final int MOST_DRIFTS = 40;
+    private static final int LOWEST_31_BITS = 0x7fffffff;
     private static final int MOST_ORDERS = 120;
     private static final int AS_IT_IS = 100;
     private static final int FAULT = -20;
@@ -655,10 +657,8 @@ public final class HelterSlide {
         }
 
         private static int clerkGain(int speed) {
-            return speed >= 6 ? PLAIN_GAIN - 2 : PLAIN_GAIN;
+            return speed >= CLERK_SPEED ? PLAIN_GAIN - CLERK_LOSS : PLAIN_GAIN;
         }
-
-        private static final int PLAIN_GAIN = 2;
 
         /** How rough the turn is comes as an argument, since rain makes it another than it is. */
         int speedBehind(int turn, int r, int speed, int roughness) {
@@ -705,7 +705,7 @@ public final class HelterSlide {
         }
 
         void driftOnce(int[] speeds) {
-            draw = (draw * 1103515245 + 12345) & Integer.MAX_VALUE;
+            draw = (draw * 1103515245 + 12345) & LOWEST_31_BITS;
             if (riders > 0) {
                 int r = draw / 65536 % riders;
                 if (place[r] == TOP) {
