@@ -37,18 +37,22 @@ public final class FaceTest {
         return text.append(")").toString();
     }
 
-    private static void methods() {
-        Set<String> due = new TreeSet<>(Set.of(METHODS));
+    private static Set<String> names() {
         Set<String> names = new TreeSet<>();
         for (String s : METHODS) {
             names.add(s.substring(s.indexOf(' ') + 1, s.indexOf('(')));
         }
+        return names;
+    }
+
+    private static void methods() {
+        Set<String> due = new TreeSet<>(Set.of(METHODS));
         for (Method m : HelterSlide.class.getDeclaredMethods()) {
             boolean isPublic = Modifier.isPublic(m.getModifiers());
             if (isPublic && !due.remove(signature(m))) {
                 fault("not in the face: " + signature(m));
             }
-            if (!isPublic && (!Modifier.isPrivate(m.getModifiers()) || names.contains(m.getName()))) {
+            if (!isPublic && (!Modifier.isPrivate(m.getModifiers()) || names().contains(m.getName()))) {
                 fault("not private, or with a public one's name: " + signature(m));
             }
         }
@@ -85,6 +89,11 @@ public final class FaceTest {
             int im = inside.getModifiers();
             if (Modifier.isPublic(im) || Modifier.isProtected(im) || !Modifier.isStatic(im)) {
                 fault("a class inside that is not hidden or not static: " + inside);
+            }
+            for (Method method : inside.getDeclaredMethods()) {
+                if (names().contains(method.getName())) {
+                    fault("a public one's name inside: " + method);
+                }
             }
         }
     }
