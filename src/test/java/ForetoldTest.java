@@ -160,6 +160,11 @@ public final class ForetoldTest {
         due("25 of all who are through then", y.order(-1), 5);
         due("25 rising", y.order(1), 2);
         due("25 four ride", y.order(4), -4);
+        HelterSlide last = Check.with("7000000000;p1,s5,s10,s15,s20");
+        due("25 only the last of all orders brings all through", last.order(-1), 5);
+        for (int k = 0; k < 5; k++) {
+            due("25 the heaviest first", last.order(k), 4 - k);
+        }
     }
 
     private static void rain(HelterSlide x, int c, long above, long below) {
