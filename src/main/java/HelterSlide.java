@@ -643,21 +643,15 @@ public final class HelterSlide {
         }
 
         int gained(int r, int turn, int speed) {
+            int asStout = PLAIN_GAIN + heavy[r] / 5;
+            int asClerk = speed >= CLERK_SPEED ? PLAIN_GAIN - CLERK_LOSS : PLAIN_GAIN;
             switch (kind[r]) {
-                case STOUT: return stoutGain(r);
-                case CLERK: return clerkGain(speed);
-                case STANDER: return turn % 2 == 0 ? stoutGain(r) : stoutGain(r) / 2;
-                case KING: return clerkGain(speed) + 2 * bump[turn];
+                case STOUT: return asStout;
+                case CLERK: return asClerk;
+                case STANDER: return turn % 2 == 0 ? asStout : asStout / 2;
+                case KING: return asClerk + 2 * bump[turn];
                 default: return PLAIN_GAIN;
             }
-        }
-
-        private int stoutGain(int r) {
-            return PLAIN_GAIN + heavy[r] / 5;
-        }
-
-        private static int clerkGain(int speed) {
-            return speed >= CLERK_SPEED ? PLAIN_GAIN - CLERK_LOSS : PLAIN_GAIN;
         }
 
         /** How rough the turn is comes as an argument, since rain makes it another than it is. */
@@ -812,16 +806,7 @@ public final class HelterSlide {
             place = 0;
             into.riders = 0;
             into.rides = 0;
-            if (!readTurns(into)) {
-                return false;
-            }
-            if (nextLetter() == ';') {
-                place++;
-                if (!readRiders(into)) {
-                    return false;
-                }
-            }
-            return nextLetter() == END;
+            return readTurns(into) && readRiders(into) && nextLetter() == END;
         }
 
         private boolean readTurns(Slide into) {
@@ -844,11 +829,9 @@ public final class HelterSlide {
             return true;
         }
 
+        /** Perhaps there are none: then what should be ahead of the first one is not there. */
         private boolean readRiders(Slide into) {
-            if (!readRider(into)) {
-                return false;
-            }
-            for (int r = 1; r < RIDERS && nextLetter() == ','; r++) {
+            for (int r = 0; r < RIDERS && nextLetter() == (r == 0 ? ';' : ','); r++) {
                 place++;
                 if (!readRider(into)) {
                     return false;
@@ -887,15 +870,12 @@ public final class HelterSlide {
         }
 
         private int readHeavy() {
-            int heavy = readDigit('0', '9');
-            if (heavy == NONE) {
-                return NONE;
-            }
-            int first = place - 1;
-            // Not nextLetter(): a blank ends the number.
-            int second = letterAt(place);
-            if (within(second, '0', '9')) {
-                heavy = 10 * heavy + second - '0';
+            skipBlanks();
+            int first = place;
+            int heavy = 0;
+            // Blanks are skipped ahead of the number alone, for they end it.
+            for (int digits = 0; digits < 2 && within(letterHere(), '0', '9'); digits++) {
+                heavy = 10 * heavy + letterHere() - '0';
                 place++;
             }
             if (!within(heavy, 1, MOST_HEAVY)) {
@@ -915,14 +895,18 @@ public final class HelterSlide {
         }
 
         private int nextLetter() {
-            while (place < length && letterAt(place) == BLANK) {
-                place++;
-            }
-            return letterAt(place);
+            skipBlanks();
+            return letterHere();
         }
 
-        private int letterAt(int i) {
-            return within(i, 0, length - 1) ? letters[i] : END;
+        private void skipBlanks() {
+            while (place < length && letters[place] == BLANK) {
+                place++;
+            }
+        }
+
+        private int letterHere() {
+            return place < length ? letters[place] : END;
         }
     }
 
